@@ -351,7 +351,6 @@ public final class LedgerMachine {
         state.addToBalance(order.from, -order.priceOf(order.gas));
         machine.events.beginOrder(i);
         machine.run(order.from, order.to, order.value, order.argument, order.gas - GAS_OF_ORDER, false);
-        machine.events.endOrder();
         int used = order.gas - machine.gasLeft;
         used -= Math.min(machine.giveBack, used / PART_GIVEN_BACK);
         state.addToBalance(order.from, order.priceOf(order.gas - used));
@@ -484,18 +483,20 @@ public final class LedgerMachine {
 
         /** Marks on its way where ACTS begin. */
         private int firstActThatIsNone() {
-            Arrays.fill(begins, false);
-            int place = 0;
-            while (place < size) {
-                int act = octets[place] & 0xFF;
-                int next = place + 1 + Code.octetsBehind(act);
-                if (act >= ACTS || next > size) {
+            for (int place = 0; place < size; place++) {
+                begins[place] = false;
+            }
+            for (int place = 0; place < size; place += actSize(place)) {
+                if ((octets[place] & 0xFF) >= ACTS || place + actSize(place) > size) {
                     return place;
                 }
                 begins[place] = true;
-                place = next;
             }
             return size == 0 ? 0 : NONE;
+        }
+
+        private int actSize(int place) {
+            return 1 + Code.octetsBehind(octets[place] & 0xFF);
         }
 
         private int firstLostJump() {
@@ -572,7 +573,7 @@ public final class LedgerMachine {
             order = i;
         }
 
-        /** Counts on above the most, for some may yet be UNDONE: only the end of the ORDER tells which are too many. */
+        /** Counts on above the most, so that what is UNDONE later takes its own away and no others. */
         void add(int account, long topic, long datum) {
             if (count < EVENTS_MOST) {
                 rows[EVENT_SIZE * count] = account;
@@ -581,10 +582,6 @@ public final class LedgerMachine {
                 rows[EVENT_SIZE * count + 3] = order;
             }
             count++;
-        }
-
-        void endOrder() {
-            count = Math.min(count, EVENTS_MOST);
         }
 
         void backTo(int formerCount) {
@@ -690,9 +687,6 @@ public final class LedgerMachine {
         private static final int[] TAKES = {
             0, 0, 0, 1, 0, 0, 2, 2, 2, 2, 2, 2, 2, 2, 2, 2, 2, 2, 1, 0,
             1, 1, 2, 0, 0, 0, 0, 0, 0, 0, 1, 4, 3, 2, 1, 2, 1, 1, 1, 0};
-        private static final int[] GIVES = {
-            0, 1, 1, 0, 0, 0, 1, 1, 1, 1, 1, 1, 1, 1, 1, 1, 1, 1, 1, 0,
-            0, 1, 0, 1, 1, 1, 1, 1, 1, 1, 1, 2, 2, 1, 0, 0, 0, 0, 0, 0};
 
         private final long[] stack = new long[STACK_MOST];
         private final long[] leavesBefore = new long[LEAVES];
@@ -721,7 +715,6 @@ public final class LedgerMachine {
             hasLock = false;
             size = 0;
             place = 0;
-            operandPlace = 0;
         }
 
         int nextAct() {
@@ -751,13 +744,12 @@ public final class LedgerMachine {
         }
 
         boolean fits(int act) {
-            int takes = TAKES[act];
-            int gives = GIVES[act];
-            if (act == DUP || act == SWAP) {
-                takes = operand() + 1;
-                gives = act == DUP ? takes + 1 : takes;
-            }
-            return size >= takes && size - takes + gives <= STACK_MOST;
+            int takes = act == DUP || act == SWAP ? operand() + 1 : TAKES[act];
+            return size >= takes && (size < STACK_MOST || !leavesOneMore(act));
+        }
+
+        private static boolean leavesOneMore(int act) {
+            return act == PUSH || act == BIG || act == DUP || act >= SELF && act <= GAS;
         }
 
         void push(long number) {

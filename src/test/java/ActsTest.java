@@ -64,10 +64,16 @@ public final class ActsTest {
             b = new Bench(Acts.join(Acts.repeat(24, Acts.PUSH, 1), one)).run(0, 0, 1000);
             b.due("ACT " + act + " makes 25", 0, 3, 1000, 0);
         }
-        int[] full = Acts.repeat(24, Acts.PUSH, 1);
-        for (int act : new int[] {Acts.SWAP, Acts.ADD, Acts.NOT, Acts.LOAD, Acts.BALANCE, Acts.CALL, Acts.LOOK, Acts.MAKE}) {
-            Bench b = new Bench(Acts.join(full, Acts.row(act), behind(act))).run(0, 0, 1000);
-            Check.same("ACT " + act + " with 24", b.ending(0), 1);
+        int[] full = Acts.repeat(24, Acts.PUSH, 2);
+        for (int act = 0; act < 40; act++) {
+            boolean leavesMore = act == Acts.PUSH || act == Acts.BIG || act == Acts.DUP || act >= Acts.SELF && act <= Acts.GAS;
+            int[] octets = Acts.join(full, Acts.row(act), behind(act));
+            if (act == Acts.JUMP || act == Acts.JUMPIF) {
+                octets[49] = 50;
+                octets = Acts.join(octets, Acts.row(Acts.STOP));
+            }
+            Bench b = new Bench(octets, Acts.row(Acts.STOP), Acts.row(Acts.STOP)).run(0, 0, 1000);
+            Check.same("ACT " + act + " with 24", b.ending(0), leavesMore ? 3 : act == Acts.REVERT ? 2 : 1);
         }
     }
 

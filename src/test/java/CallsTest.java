@@ -181,6 +181,14 @@ public final class CallsTest {
             Bench b = new Bench(Acts.join(acts, Acts.row(Acts.PUSH, 1, Acts.RETURN)));
             Check.same("what a view may", b.x.view(0, 0, 1, 0, 9000), 1);
         }
+        int[] acts = {Acts.SELF, Acts.CALLER, Acts.ORIGIN, Acts.VALUE, Acts.ARGUMENT, Acts.HEIGHT, Acts.GAS};
+        long[] due = {1, 2, 0, 0, 8, 1, 2999};
+        for (int i = 0; i < acts.length; i++) {
+            Bench b = new Bench(Acts.row(acts[i], Acts.RETURN), Acts.join(Acts.look(8, 1), ANSWER));
+            b.order(2, 5, 3, 9000).block();
+            Check.same("ACT " + acts[i] + " in a LOOK", b.answer(0), due[i]);
+            Check.same("a LOOK moves no value", b.balance(1), 100);
+        }
         Bench inner = new Bench(Acts.store(0, 1), Acts.join(Acts.look(0, 3), BOTH), Acts.join(Acts.look(0, 1), FLAG),
                 Acts.join(Acts.look(0, 3), Acts.row(Acts.POP, Acts.POP), Acts.store(0, 1), Acts.row(Acts.PUSH, 5, Acts.RETURN)));
         inner.order(2, 0, 0, 9000).order(4, 0, 0, 9000).block();
@@ -209,6 +217,13 @@ public final class CallsTest {
         heir.order(1, 0, 0, 9000).block();
         Check.same("an heir may have a LOCK", heir.balance(1), 200);
         locksEndWithTheirFrames();
+        lockOfAnotherOrder(Acts.calledOrOrdered(four, callTwo), back);
+    }
+
+    private static void lockOfAnotherOrder(int[] first, int[] back) {
+        Bench b = new Bench(first, back, Acts.row(Acts.LOCK));
+        b.order(3, 0, 0, 100).order(1, 0, 0, 9000).block();
+        Check.same("behind a LOCK of another ORDER", b.answer(1), 41);
     }
 
     private static void lock(String what, int[] first, int[] second, long due) {
@@ -251,6 +266,13 @@ public final class CallsTest {
         Check.same("code 2^32", farCode.run(0, 0, 900).answer(0), -1);
         Bench just = new Bench(Acts.join(make(0, 100), Acts.row(Acts.RETURN)));
         Check.same("all it has", just.run(0, 0, 900).answer(0), 2);
+        LedgerMachine x = new LedgerMachine();
+        Acts.code(x, Acts.join(make(0, 0), Acts.row(Acts.RETURN)));
+        x.endow(1, 0, 0);
+        x.order(2, 1, 0, 0, 900, 0, 0);
+        x.block(0, 9);
+        Check.same("account 0", x.receipt(1, 0, 2), 0);
+        Check.same("with its CODE", x.leaf(1, 2), 1);
         makesUntilThereAreNone();
     }
 
@@ -300,12 +322,14 @@ public final class CallsTest {
     }
 
     private static void closes() {
-        Bench b = new Bench(Acts.join(Acts.store(0, 1), Acts.store(15, 2), Acts.row(Acts.PUSH, 20, Acts.CLOSE, Acts.POP)));
+        Bench b = new Bench(Acts.join(Acts.store(0, 1), Acts.store(15, 2), Acts.row(Acts.PUSH, 20, Acts.CLOSE, Acts.POP)), Acts.row(Acts.STOP));
         b.run(6, 0, 900);
         b.due("CLOSE", 0, 1, 25 + 2 * 62 + 21, 0);
         Check.same("BALANCE", b.balance(1), 0);
         Check.same("heir", b.balance(20), 106);
         Check.same("account 1 is EMPTY", b.x.digest(1, 5, 1), 0);
+        Check.same("the account before it", b.balance(0), 1000000 - 6);
+        Check.same("the account behind it", b.balance(2), 100);
         for (long heir : new long[] {1, -1, 32, 1L << 32}) {
             Bench broken = new Bench(Acts.join(Acts.big(heir), Acts.row(Acts.CLOSE)));
             broken.run(0, 0, 900).due("heir " + heir, 0, 3, 900, 0);

@@ -55,6 +55,11 @@ public final class P03CodeTest {
         Check.same("a JUMP within BIG is none", judged(Acts.BIG, Acts.JUMP, 99, 0, 0, 0, 0, 0, 0), 0);
         int[] far = Acts.join(Acts.row(Acts.JUMP, 199), new int[198]);
         Check.same("JUMP to place 199", Acts.code(new LedgerMachine(), far), 0);
+        far[1] = 200;
+        Check.same("JUMP to place 200", Acts.code(new LedgerMachine(), far), -2);
+        LedgerMachine x = new LedgerMachine();
+        Acts.code(x, Acts.STOP, Acts.STOP, Acts.STOP);
+        Check.same("where an ACT of another draft began", Acts.code(x, Acts.JUMP, 1), -2);
     }
 
     private static void atMostSixteen() {

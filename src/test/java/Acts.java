@@ -41,6 +41,9 @@ final class Acts {
     static final int CLOSE = 38;
     static final int LOCK = 39;
 
+    /** Behind a CALL or a LOOK: RETURNS 10 times what it ended with and, added to that, 1 if WELL. */
+    static final int[] BOTH = {SWAP, 1, PUSH, 10, MUL, ADD, RETURN};
+
     private Acts() {
     }
 

@@ -1,5 +1,9 @@
 /** Counts the answers that are not as due; every test ends with end(). */
 final class Check {
+    static final Class<IndexOutOfBoundsException> INDEX = IndexOutOfBoundsException.class;
+    static final Class<IllegalArgumentException> ARGUMENT = IllegalArgumentException.class;
+    static final Class<IllegalStateException> STATE = IllegalStateException.class;
+
     private static int wrong = 0;
 
     private Check() {
@@ -28,6 +32,15 @@ final class Check {
             got = e.getClass().getSimpleName();
         }
         tell(call + " threw " + got + ", due is " + due.getSimpleName());
+    }
+
+    /** The nearest numbers outside of low .. high at both ends, and the farthest. */
+    static int[] outside(int low, int high) {
+        return new int[] {low - 1, high + 1, Integer.MIN_VALUE, Integer.MAX_VALUE};
+    }
+
+    static long[] outside(long low, long high) {
+        return new long[] {low - 1, high + 1, Long.MIN_VALUE, Long.MAX_VALUE};
     }
 
     static void tell(String what) {

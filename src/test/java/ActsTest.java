@@ -6,12 +6,16 @@ public final class ActsTest {
     private static final int[] TAKES = {
         0, 0, 0, 1, 1, 1, 2, 2, 2, 2, 2, 2, 2, 2, 2, 2, 2, 2, 1, 0,
         1, 1, 2, 0, 0, 0, 0, 0, 0, 0, 1, 4, 3, 2, 1, 2, 1, 1, 1, 0};
+    private static final int[] GIVES = {
+        0, 1, 1, 0, 2, 1, 1, 1, 1, 1, 1, 1, 1, 1, 1, 1, 1, 1, 1, 0,
+        0, 1, 0, 1, 1, 1, 1, 1, 1, 1, 1, 2, 2, 1, 0, 0, 0, 0, 0, 0};
     private static final long LEAST = Long.MIN_VALUE;
     private static final long MOST = Long.MAX_VALUE;
 
     public static void main(String[] args) {
         costIsTakenBefore();
         tooLittleOnTheStack();
+        whatIsTakenAndWhatComes();
         atMostTwentyFourNumbers();
         whatLeavesNoMoreIsFineWithTwentyFour();
         behindTheLastActIsStop();
@@ -75,6 +79,20 @@ public final class ActsTest {
                 int[] octets = Acts.join(Acts.repeat(there, Acts.PUSH, 2), Acts.row(act), behind(act));
                 new Bench(octets).run(0, 0, 1000).due("ACT " + act + " with " + there, 0, 3, 1000, 0);
             }
+        }
+    }
+
+    /** What is below an ACT's numbers is on top when what came is taken away; when one more is, nothing is there. */
+    private static void whatIsTakenAndWhatComes() {
+        for (int act = 0; act < 40; act++) {
+            if (endsTheFrame(act) || act == Acts.JUMP || act == Acts.JUMPIF) {
+                continue;
+            }
+            int number = act == Acts.DIV || act == Acts.REM ? 2 : 0;
+            int[] octets = Acts.join(Acts.row(Acts.PUSH, 99), Acts.repeat(TAKES[act], Acts.PUSH, number), Acts.row(act),
+                    behind(act), Acts.repeat(GIVES[act], Acts.POP));
+            Check.same("below ACT " + act, answer(octets), 99);
+            broken("nothing below that", Acts.join(octets, Acts.row(Acts.POP, Acts.RETURN)));
         }
     }
 
@@ -228,7 +246,8 @@ public final class ActsTest {
         two(Acts.REM, LEAST, -1, 0);
         for (int act : new int[] {Acts.DIV, Acts.REM}) {
             for (int number : new int[] {0, 1, -1}) {
-                broken(number + " by 0", Acts.PUSH, number, Acts.PUSH, 0, act, Acts.RETURN);
+                broken(number + " by 0", Acts.PUSH, number, Acts.PUSH, 0, act);
+                broken(number + " by 0 above others", Acts.PUSH, 8, Acts.PUSH, number, Acts.PUSH, 0, act, Acts.RETURN);
             }
         }
     }
@@ -280,7 +299,8 @@ public final class ActsTest {
     /** "on at place p": p is 0 .. 255 without a sign. */
     private static void jump() {
         for (int place : new int[] {3, 126, 127, 128, 129, 197}) {
-            int[] octets = Acts.join(Acts.row(Acts.JUMP, place, Acts.POP), Acts.repeat(place - 3, Acts.POP), Acts.row(Acts.PUSH, 3, Acts.RETURN));
+            int[] octets = Acts.join(Acts.row(Acts.JUMP, place, Acts.POP), Acts.repeat(place - 3, Acts.POP),
+                    Acts.row(Acts.PUSH, 3, Acts.RETURN));
             new Bench(octets).run(0, 0, 500).due("JUMP " + place, 0, 1, 28, 3);
         }
         new Bench(Acts.row(Acts.JUMP, 0)).run(0, 0, 30000).due("without an end", 0, 3, 30000, 0);
@@ -298,5 +318,9 @@ public final class ActsTest {
         for (int i = 0; i < numbers.length; i++) {
             b.due("JUMPIF of " + numbers[i], i, 1, 29, numbers[i] == 0 ? 4 : 5);
         }
+        b = new Bench(Acts.row(Acts.PUSH, 9, Acts.ARGUMENT, Acts.JUMPIF, 6, Acts.RETURN, Acts.RETURN));
+        b.order(1, 0, 0, 500).order(1, 0, 1, 500).block();
+        b.due("a is taken when it is 0", 0, 1, 29, 9);
+        b.due("and when it is not", 1, 1, 29, 9);
     }
 }

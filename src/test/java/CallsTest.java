@@ -24,6 +24,7 @@ public final class CallsTest {
         valueMoves();
         valueToItself();
         returnAndRevert();
+        eachFrameHasItsOwnStack();
         Check.end();
     }
 
@@ -73,7 +74,8 @@ public final class CallsTest {
         withGas(100, TELLS_GAS, TELLS_GAS).due("WELL", 0, 1, 62, 438);
         withGas(100, Acts.row(Acts.GAS, Acts.REVERT), TELLS_GAS).due("UNDONE", 0, 1, 62, 438);
         withGas(100, Acts.row(Acts.STOP), TELLS_GAS).due("nothing was used", 0, 1, 61, 439);
-        Bench look = new Bench(TELLS_GAS, Acts.row(Acts.PUSH, 100, Acts.PUSH, 0, Acts.PUSH, 1, Acts.LOOK, Acts.POP, Acts.RETURN));
+        Bench look = new Bench(TELLS_GAS, Acts.row(Acts.PUSH, 100, Acts.PUSH, 0, Acts.PUSH, 1, Acts.LOOK, Acts.POP,
+                Acts.RETURN));
         look.order(2, 0, 0, 500).block();
         look.due("a LOOK", 0, 1, 25 + 3 + 25 + 1 + 1, 99);
     }
@@ -105,7 +107,8 @@ public final class CallsTest {
     }
 
     private static void failing(String what, long value, long to) {
-        int[] call = Acts.join(Acts.big(200), Acts.row(Acts.PUSH, 7), Acts.big(value), Acts.big(to), Acts.row(Acts.CALL), Acts.BOTH);
+        int[] call = Acts.join(Acts.big(200), Acts.row(Acts.PUSH, 7), Acts.big(value), Acts.big(to),
+                Acts.row(Acts.CALL), Acts.BOTH);
         Bench b = new Bench(Acts.row(Acts.ARGUMENT, Acts.RETURN), call);
         b.order(2, 0, 0, 900).block();
         b.due(what, 0, 1, 25 + 7 + 30 + 5, 0);
@@ -156,7 +159,8 @@ public final class CallsTest {
 
     /** What the CALLS before it moved counts, and so does the value that it got itself. */
     private static void theBalanceAsItIsThen() {
-        int[] twice = Acts.join(Acts.call(0, 60, 20), Acts.call(0, 50, 20), Acts.row(Acts.PUSH, 10, Acts.MUL, Acts.ADD, Acts.ADD, Acts.RETURN));
+        int[] twice = Acts.join(Acts.call(0, 60, 20), Acts.call(0, 50, 20), Acts.row(Acts.PUSH, 10, Acts.MUL, Acts.ADD,
+                Acts.ADD, Acts.RETURN));
         Bench b = new Bench(twice);
         b.order(1, 9, 0, 900).block();
         Check.same("60 of 109, then 50 of 49", b.answer(0), 1);
@@ -202,7 +206,8 @@ public final class CallsTest {
     private static void withinTenWithoutACode() {
         int[] less = Acts.row(Acts.ARGUMENT, Acts.PUSH, 1, Acts.SUB, Acts.DUP, 0);
         int[] callNobody = Acts.row(Acts.PUSH, 0, Acts.PUSH, 0, Acts.PUSH, 1, Acts.PUSH, 20, Acts.CALL, Acts.RETURN);
-        int[] callSelf = Acts.join(Acts.big(30000), Acts.row(Acts.SWAP, 1, Acts.PUSH, 0, Acts.SELF, Acts.CALL, Acts.POP, Acts.RETURN));
+        int[] callSelf = Acts.join(Acts.big(30000), Acts.row(Acts.SWAP, 1, Acts.PUSH, 0, Acts.SELF, Acts.CALL,
+                Acts.POP, Acts.RETURN));
         Bench b = new Bench(Acts.branch(less, callSelf, callNobody));
         b.order(1, 0, 9, 3000).order(1, 0, 10, 3000).order(1, 0, 11, 3000).block();
         Check.same("within nine FRAMES", b.answer(0), 1);
@@ -213,7 +218,8 @@ public final class CallsTest {
     /** FRAMES that have ended do not count. */
     private static void tenFramesAgain() {
         int[] deeper = Acts.row(Acts.GAS, Acts.PUSH, 0, Acts.PUSH, 0, Acts.SELF, Acts.CALL, Acts.ADD, Acts.RETURN);
-        int[] twice = Acts.join(Acts.call(0, 0, 1), Acts.row(Acts.POP), Acts.call(0, 0, 1), Acts.row(Acts.POP, Acts.PUSH, 10, Acts.MUL, Acts.ADD, Acts.RETURN));
+        int[] twice = Acts.join(Acts.call(0, 0, 1), Acts.row(Acts.POP), Acts.call(0, 0, 1), Acts.row(Acts.POP,
+                Acts.PUSH, 10, Acts.MUL, Acts.ADD, Acts.RETURN));
         Bench b = new Bench(deeper, twice);
         b.order(2, 0, 0, 9000).block();
         Check.same("eight CALLS within the second, twice", b.answer(0), 88);
@@ -221,7 +227,8 @@ public final class CallsTest {
 
     /** "with value from the caller's BALANCE to its" */
     private static void valueMoves() {
-        Bench b = new Bench(Acts.row(Acts.SELF, Acts.BALANCE, Acts.RETURN), Acts.join(Acts.call(0, 60, 1), Acts.call(0, 40, 20), Acts.row(Acts.POP, Acts.POP), ANSWER));
+        int[] gives = Acts.join(Acts.call(0, 60, 1), Acts.call(0, 40, 20), Acts.row(Acts.POP, Acts.POP), ANSWER);
+        Bench b = new Bench(Acts.row(Acts.SELF, Acts.BALANCE, Acts.RETURN), gives);
         b.order(2, 0, 0, 9000).block();
         Check.same("it has it when it runs", b.answer(0), 160);
         Check.same("all of it", b.balance(2), 0);
@@ -242,7 +249,8 @@ public final class CallsTest {
     /** "ends WELL with v", "ends UNDONE with v": at both ends of a long. */
     private static void returnAndRevert() {
         for (int end : new int[] {Acts.RETURN, Acts.REVERT}) {
-            Bench b = new Bench(Acts.row(Acts.ARGUMENT, end, Acts.POP), Acts.row(Acts.GAS, Acts.ARGUMENT, Acts.PUSH, 0, Acts.PUSH, 1, Acts.CALL, Acts.POP, Acts.RETURN));
+            int[] calls = Acts.row(Acts.GAS, Acts.ARGUMENT, Acts.PUSH, 0, Acts.PUSH, 1, Acts.CALL, Acts.POP, Acts.RETURN);
+            Bench b = new Bench(Acts.row(Acts.ARGUMENT, end, Acts.POP), calls);
             long[] with = {0, -1, Long.MIN_VALUE, Long.MAX_VALUE};
             for (long v : with) {
                 b.order(1, 0, v, 500).order(2, 0, v, 500);
@@ -253,5 +261,16 @@ public final class CallsTest {
                 Check.same("of a CALL", b.answer(2 * i + 1), with[i]);
             }
         }
+    }
+
+    /** A FRAME begins with nothing on its STACK, whatever the one before it left, and its caller's is as it was. */
+    private static void eachFrameHasItsOwnStack() {
+        int[] leaves = Acts.repeat(24, Acts.PUSH, 5);
+        int[] second = Acts.row(Acts.PUSH, 50, Acts.PUSH, 0, Acts.PUSH, 0, Acts.PUSH, 2, Acts.CALL);
+        int[] outer = Acts.join(Acts.row(Acts.PUSH, 77), Acts.call(0, 0, 1), Acts.row(Acts.POP, Acts.POP), second,
+                Acts.row(Acts.JUMPIF, 0, Acts.POP, Acts.RETURN));
+        Bench b = new Bench(leaves, Acts.row(Acts.POP), outer);
+        b.order(3, 0, 0, 9000).block();
+        b.due("the second is BROKEN", 0, 1, 25 + 1 + 35 + 24 + 2 + 34 + 50 + 3, 77);
     }
 }

@@ -66,7 +66,8 @@ public final class CellsTest {
     }
 
     private static void ofItsOwnAccount() {
-        Bench b = new Bench(Acts.store(3, 7), Acts.join(Acts.store(3, 8), Acts.call(0, 0, 1), Acts.row(Acts.PUSH, 3, Acts.LOAD, Acts.RETURN)));
+        int[] calls = Acts.join(Acts.store(3, 8), Acts.call(0, 0, 1), Acts.row(Acts.PUSH, 3, Acts.LOAD, Acts.RETURN));
+        Bench b = new Bench(Acts.store(3, 7), calls);
         b.order(2, 0, 0, 5000).block();
         Check.same("LOAD", b.answer(0), 8);
         Check.same("CELL 3 of 1", b.cell(1, 3), 7);

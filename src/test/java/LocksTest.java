@@ -54,7 +54,8 @@ public final class LocksTest {
         for (int[] lock : new int[][] {LOCK, Acts.row()}) {
             int[][] codes = new int[9][];
             for (int i = 1; i < 8; i++) {
-                codes[i] = Acts.row(Acts.GAS, Acts.PUSH, 0, Acts.PUSH, 0, Acts.PUSH, i + 2, Acts.CALL, Acts.POP, Acts.RETURN);
+                codes[i] = Acts.row(Acts.GAS, Acts.PUSH, 0, Acts.PUSH, 0, Acts.PUSH, i + 2, Acts.CALL, Acts.POP,
+                        Acts.RETURN);
             }
             codes[0] = Acts.calledOrOrdered(FOUR, Acts.join(lock, CALL_TWO));
             codes[8] = BACK;
@@ -78,7 +79,8 @@ public final class LocksTest {
 
     /** "It fails (ends UNDONE with 0, the GAS stays with the caller) when .. its ACCOUNT has a LOCK" */
     private static void theCallFailsAndItsGasStays() {
-        int[] first = Acts.row(Acts.LOCK, Acts.PUSH, 100, Acts.PUSH, 0, Acts.PUSH, 0, Acts.SELF, Acts.CALL, Acts.GAS, Acts.RETURN);
+        int[] first = Acts.row(Acts.LOCK, Acts.PUSH, 100, Acts.PUSH, 0, Acts.PUSH, 0, Acts.SELF, Acts.CALL, Acts.GAS,
+                Acts.RETURN);
         new Bench(first).run(0, 0, 500).due("CALL", 0, 1, 25 + 3 + 4 + 30 + 1, 500 - 63);
         int[] gives = Acts.row(Acts.PUSH, 100, Acts.PUSH, 0, Acts.PUSH, 60, Acts.PUSH, 1, Acts.CALL, Acts.RETURN);
         Bench b = new Bench(Acts.join(LOCK, CALL_TWO), gives);
@@ -103,7 +105,8 @@ public final class LocksTest {
 
     /** "LOCKS end with their FRAMES" */
     private static void locksEndHoweverTheirFramesEnd() {
-        int[][] ends = {FOUR, Acts.row(Acts.PUSH, 4, Acts.REVERT), Acts.row(Acts.POP), Acts.row(Acts.STOP), Acts.row(Acts.PUSH, 20, Acts.CLOSE)};
+        int[][] ends = {FOUR, Acts.row(Acts.PUSH, 4, Acts.REVERT), Acts.row(Acts.POP), Acts.row(Acts.STOP),
+                Acts.row(Acts.PUSH, 20, Acts.CLOSE)};
         long[] due = {41, 40, 0, 1, 1};
         for (int i = 0; i < ends.length; i++) {
             int[] calls = Acts.join(Acts.call(0, 0, 1), Acts.row(Acts.POP, Acts.POP), Acts.call(0, 0, 1), Acts.BOTH);

@@ -87,7 +87,8 @@ public final class LooksTest {
     private static void forbiddenTenFramesDeep() {
         int[] less = Acts.row(Acts.ARGUMENT);
         int[] stores = Acts.join(Acts.store(0, 1), Acts.row(Acts.PUSH, 7, Acts.RETURN));
-        int[] deeper = Acts.row(Acts.GAS, Acts.ARGUMENT, Acts.PUSH, 1, Acts.SUB, Acts.PUSH, 0, Acts.SELF, Acts.CALL, Acts.POP, Acts.RETURN);
+        int[] deeper = Acts.row(Acts.GAS, Acts.ARGUMENT, Acts.PUSH, 1, Acts.SUB, Acts.PUSH, 0, Acts.SELF, Acts.CALL,
+                Acts.POP, Acts.RETURN);
         Bench b = new Bench(Acts.branch(less, deeper, stores));
         b.order(1, 0, 9, 3000).block();
         Check.same("as an ORDER", b.answer(0), 7);
@@ -108,7 +109,8 @@ public final class LooksTest {
     private static void aCallWithAValueThatIsNotZero() {
         long[] values = {0, 1, -1, 1L << 32, Long.MIN_VALUE, Long.MAX_VALUE};
         for (long value : values) {
-            int[] calls = Acts.join(Acts.row(Acts.PUSH, 0, Acts.PUSH, 0), Acts.big(value), Acts.row(Acts.PUSH, 20, Acts.CALL), ONE);
+            int[] calls = Acts.join(Acts.row(Acts.PUSH, 0, Acts.PUSH, 0), Acts.big(value),
+                    Acts.row(Acts.PUSH, 20, Acts.CALL), ONE);
             Bench b = new Bench(calls);
             Check.same("value " + value, b.x.view(0, 0, 1, 0, 900), value == 0 ? 1 : 0);
             Check.same("how it ends", b.x.seen(0), value == 0 ? 1 : 3);
@@ -130,7 +132,8 @@ public final class LooksTest {
 
     /** The FRAME that LOOKED is none itself. */
     private static void behindALook() {
-        int[] looks = Acts.join(Acts.look(0, 1), Acts.row(Acts.POP, Acts.POP), Acts.store(0, 1), Acts.call(0, 7, 20), Acts.row(Acts.PUSH, 5, Acts.RETURN));
+        int[] looks = Acts.join(Acts.look(0, 1), Acts.row(Acts.POP, Acts.POP), Acts.store(0, 1), Acts.call(0, 7, 20),
+                Acts.row(Acts.PUSH, 5, Acts.RETURN));
         Bench b = new Bench(ONE, looks);
         b.order(2, 0, 0, 9000).block();
         Check.same("it ends", b.answer(0), 5);

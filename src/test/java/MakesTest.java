@@ -52,8 +52,10 @@ public final class MakesTest {
     }
 
     private static void itRunsAtOnce() {
-        int[] calls = Acts.join(Acts.row(Acts.GAS, Acts.PUSH, 0, Acts.PUSH, 0), make(1, 9), Acts.row(Acts.CALL, Acts.POP, Acts.RETURN));
-        Bench b = new Bench(calls, Acts.row(Acts.SELF, Acts.BALANCE, Acts.PUSH, 10, Acts.MUL, Acts.SELF, Acts.ADD, Acts.RETURN));
+        int[] calls = Acts.join(Acts.row(Acts.GAS, Acts.PUSH, 0, Acts.PUSH, 0), make(1, 9), Acts.row(Acts.CALL,
+                Acts.POP, Acts.RETURN));
+        Bench b = new Bench(calls, Acts.row(Acts.SELF, Acts.BALANCE, Acts.PUSH, 10, Acts.MUL, Acts.SELF, Acts.ADD,
+                Acts.RETURN));
         b.run(0, 0, 900);
         Check.same("the new one, with its BALANCE", b.answer(0), 93);
     }
@@ -70,8 +72,10 @@ public final class MakesTest {
 
     /** "nor one with a FRAME)": 1 CALLS 2, which CALLS 1 so that it CLOSES; 1 is EMPTY then, but has a FRAME still. */
     private static void norOneWithAFrame() {
-        int[] first = Acts.calledOrOrdered(Acts.row(Acts.PUSH, 0, Acts.CLOSE), Acts.join(Acts.call(0, 0, 2), Acts.row(Acts.POP, Acts.RETURN)));
-        int[] second = Acts.join(Acts.row(Acts.PUSH, 100, Acts.PUSH, 0, Acts.PUSH, 0, Acts.PUSH, 1, Acts.CALL), make(1, 0), RETURNS);
+        int[] first = Acts.calledOrOrdered(Acts.row(Acts.PUSH, 0, Acts.CLOSE), Acts.join(Acts.call(0, 0, 2),
+                Acts.row(Acts.POP, Acts.RETURN)));
+        int[] second = Acts.join(Acts.row(Acts.PUSH, 100, Acts.PUSH, 0, Acts.PUSH, 0, Acts.PUSH, 1, Acts.CALL), make(1,
+                0), RETURNS);
         Bench b = new Bench(first, second);
         b.order(1, 0, 0, 9000).block();
         Check.same("1 is gone", b.codeOf(1), -1);
@@ -188,7 +192,8 @@ public final class MakesTest {
 
     /** "(FRAMES that run go on as they are)": the same FRAME, and an outer one of the ACCOUNT. */
     private static void framesThatRunGoOn() {
-        Bench b = new Bench(Acts.row(Acts.PUSH, 1, Acts.BECOME, Acts.PUSH, 7, Acts.RETURN), Acts.row(Acts.PUSH, 8, Acts.RETURN));
+        Bench b = new Bench(Acts.row(Acts.PUSH, 1, Acts.BECOME, Acts.PUSH, 7, Acts.RETURN),
+                Acts.row(Acts.PUSH, 8, Acts.RETURN));
         b.order(1, 0, 0, 900).order(1, 0, 0, 900).block();
         b.due("the FRAME itself", 0, 1, 25 + 1 + 40 + 1, 7);
         b.due("the next one", 1, 1, 26, 8);

@@ -314,7 +314,8 @@ public final class OrdersTest {
 
     /** One CELL is cleared, 15 to GIVE BACK; with this much used in all this much counts as not used. */
     private static void fifth(int used, int back) {
-        int[] clears = Acts.join(Acts.row(Acts.PUSH, 9), Acts.store(0, 0), Acts.repeat(used - 51, Acts.SWAP, 0), Acts.row(Acts.STOP));
+        int[] clears = Acts.join(Acts.row(Acts.PUSH, 9), Acts.store(0, 0), Acts.repeat(used - 51, Acts.SWAP, 0),
+                Acts.row(Acts.STOP));
         Bench b = new Bench(Acts.branch(Acts.row(Acts.ARGUMENT), Acts.store(0, 1), clears));
         b.order(1, 0, 1, 2000).block();
         b.order(1, 0, 0, 2000).block();
@@ -332,7 +333,8 @@ public final class OrdersTest {
 
     private static void nothingGivenBackWhenUndone() {
         int[] clears = Acts.join(Acts.store(0, 1), Acts.store(0, 0));
-        Bench b = new Bench(Acts.join(clears, Acts.row(Acts.PUSH, 0, Acts.REVERT)), Acts.join(clears, Acts.row(Acts.POP)), Acts.row(Acts.STOP));
+        Bench b = new Bench(Acts.join(clears, Acts.row(Acts.PUSH, 0, Acts.REVERT)), Acts.join(clears,
+                Acts.row(Acts.POP)), Acts.row(Acts.STOP));
         b.order(1, 0, 0, 900).order(2, 0, 0, 900).order(3, 0, 0, 900).block();
         b.due("UNDONE", 0, 2, 25 + 85, 0);
         b.due("BROKEN", 1, 3, 900, 0);
@@ -362,7 +364,8 @@ public final class OrdersTest {
 
     /** "Its STATE is its parent's, with its ORDERS done in order" */
     private static void doneInOrder() {
-        int[] appends = Acts.row(Acts.PUSH, 0, Acts.DUP, 0, Acts.LOAD, Acts.PUSH, 10, Acts.MUL, Acts.ARGUMENT, Acts.ADD, Acts.STORE);
+        int[] appends = Acts.row(Acts.PUSH, 0, Acts.DUP, 0, Acts.LOAD, Acts.PUSH, 10, Acts.MUL, Acts.ARGUMENT,
+                Acts.ADD, Acts.STORE);
         Bench b = new Bench(appends);
         for (int i = 1; i <= 9; i++) {
             b.order(1, 0, i, 200);

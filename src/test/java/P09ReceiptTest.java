@@ -6,6 +6,7 @@ public final class P09ReceiptTest {
         whatItEndedWith();
         allGasAndNone();
         tenOrders();
+        ofEachBlockItsOwn();
         noSuchBlock();
         noSuchOrder();
         noOrdersAtAll();
@@ -73,6 +74,14 @@ public final class P09ReceiptTest {
             b.due("order " + i, i, 1, 26, 100 + i);
         }
         Check.refuses("an eleventh", Check.INDEX, () -> b.x.receipt(1, 10, 0));
+    }
+
+    private static void ofEachBlockItsOwn() {
+        Bench b = bench().order(1, 0, 7, 100).order(2, 0, 8, 90).block().order(2, 0, 9, 80).block();
+        b.due("of the second", 0, 2, 26, 9);
+        Check.same("of the first", b.x.receipt(1, 0, 2), 7);
+        Check.same("of the first", b.x.receipt(1, 1, 2), 8);
+        Check.refuses("the second has one", Check.INDEX, () -> b.x.receipt(2, 1, 0));
     }
 
     private static void noSuchBlock() {

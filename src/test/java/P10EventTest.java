@@ -41,7 +41,8 @@ public final class P10EventTest {
 
     private static void anyTopicAndDatum() {
         Bench b = new Bench(Acts.join(Acts.big(Long.MIN_VALUE), Acts.big(Long.MAX_VALUE), Acts.row(Acts.EMIT),
-                Acts.big(Long.MAX_VALUE), Acts.big(Long.MIN_VALUE), Acts.row(Acts.EMIT, Acts.PUSH, 0, Acts.PUSH, 0, Acts.EMIT)));
+                Acts.big(Long.MAX_VALUE), Acts.big(Long.MIN_VALUE), Acts.row(Acts.EMIT),
+                Acts.row(Acts.PUSH, 0, Acts.PUSH, 0, Acts.EMIT)));
         b.run(0, 0, 1000);
         due(b, 0, 1, Long.MIN_VALUE, Long.MAX_VALUE, 0);
         due(b, 1, 1, Long.MAX_VALUE, Long.MIN_VALUE, 0);
@@ -117,6 +118,9 @@ public final class P10EventTest {
         Bench b = new Bench(MANY).run(0, 60, 3000).run(0, 60, 3000);
         Check.same("the second BLOCK has its own", b.events(), 60);
         Check.same("the first has them still", b.x.told(1, 3), 60);
+        b = new Bench(MANY).run(0, 2, 3000).run(0, 3, 3000);
+        Check.same("event 0 of the first", b.x.event(1, 0, 1), 2);
+        Check.same("event 0 of the second", b.x.event(2, 0, 1), 3);
         b.block();
         Check.same("one without ORDERS has none", b.events(), 0);
     }

@@ -26,7 +26,8 @@ public final class P12DigestTest {
         for (int level = 0; level <= 10; level++) {
             int last = (1024 >> level) - 1;
             Check.same("digest(1, " + level + ", 0)", x.digest(1, level, 0), Digests.node(leaves, level, 0));
-            Check.same("digest(1, " + level + ", " + last + ")", x.digest(1, level, last), Digests.node(leaves, level, last));
+            Check.same("digest(1, " + level + ", " + last + ")", x.digest(1, level, last), Digests.node(leaves, level,
+                    last));
             Check.same("some node is not 0", x.digest(1, level, last) != 0, true);
         }
     }

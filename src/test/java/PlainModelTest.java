@@ -5,7 +5,8 @@ import java.util.function.LongSupplier;
 /** Runs of calls, drawn by a fixed rule, on LedgerMachine and on PlainModel: every answer must be the same. */
 public final class PlainModelTest {
     private static final int RUNS = 2000;
-    private static final int CALLS = 500;
+    /** The last step may make 33 calls (a block, two questions and thirty receipts): 512 are not passed. */
+    private static final int CALLS = 512 - 33;
 
     private final Draw draw;
     private final LedgerMachine machine = new LedgerMachine();
@@ -238,14 +239,16 @@ public final class PlainModelTest {
         int odd = draw.oneOf(-1, 0, 7, 10, 31, 32, 39, 40, 1023, 1024, 30000, 30001, Integer.MIN_VALUE, Integer.MAX_VALUE);
         int other = draw.oneOf(-1, 0, 1, 3, 10, 31, 32, Integer.MIN_VALUE, Integer.MAX_VALUE);
         switch (draw.below(12)) {
-            case 0: both("leaf(" + other + ", " + odd + ")", () -> machine.leaf(other, odd), () -> model.leaf(other, odd)); break;
+            case 0: both("leaf(" + other + ", " + odd + ")", () -> machine.leaf(other, odd), () -> model.leaf(other,
+                    odd)); break;
             case 1: both("digest(0, " + other + ", " + odd + ")", () -> machine.digest(0, other, odd),
                     () -> model.digest(0, other, odd)); break;
             case 2: receipt(other, odd, draw.below(4)); break;
             case 3: both("event(" + other + ", " + odd + ", 0)", () -> machine.event(other, odd, 0),
                     () -> model.event(other, odd, 0)); break;
             case 4: both("seen(" + odd + ")", () -> machine.seen(odd), () -> model.seen(odd)); break;
-            case 5: both("vote(" + other + ", " + odd + ")", () -> machine.vote(other, odd), () -> model.vote(other, odd)); break;
+            case 5: both("vote(" + other + ", " + odd + ")", () -> machine.vote(other, odd), () -> model.vote(other,
+                    odd)); break;
             case 6: both("certain(" + odd + ")", () -> machine.certain(odd), () -> model.certain(odd)); break;
             case 7: both("view(0, " + other + ", 0, 0, " + odd + ")", () -> machine.view(0, other, 0, 0, odd),
                     () -> model.view(0, other, 0, 0, odd)); break;

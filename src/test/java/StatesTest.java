@@ -266,7 +266,8 @@ public final class StatesTest {
             for (int level = 0; level <= 10; level++) {
                 for (int i = 0; i < 1024 >> level; i++) {
                     if (count % 8 == part) {
-                        Check.same("digest(0, " + level + ", " + i + ")", x.digest(0, level, i), Digests.node(leaves, level, i));
+                        Check.same("digest(0, " + level + ", " + i + ")", x.digest(0, level, i), Digests.node(leaves,
+                                level, i));
                     }
                     count++;
                 }

@@ -31,7 +31,8 @@ public final class UndoneTest {
     /** "WELL: all that was done stays." */
     private static void wellAllStays() {
         int[] acts = Acts.join(Acts.store(0, 5), Acts.row(Acts.PUSH, 2, Acts.BECOME, Acts.PUSH, 1, Acts.PUSH, 4, Acts.EMIT),
-                Acts.row(Acts.PUSH, 2, Acts.PUSH, 10, Acts.MAKE, Acts.POP), Acts.call(0, 7, 20), Acts.row(Acts.PUSH, 3, Acts.RETURN));
+                Acts.row(Acts.PUSH, 2, Acts.PUSH, 10, Acts.MAKE, Acts.POP), Acts.call(0, 7, 20),
+                Acts.row(Acts.PUSH, 3, Acts.RETURN));
         Bench b = called(acts);
         Check.same("it tells", b.answer(0), 31);
         Check.same("value", b.balance(1), 70);
@@ -118,7 +119,8 @@ public final class UndoneTest {
     /** What was to be GIVEN BACK before the CALL began is still. */
     private static void whatWasToBeGivenBackStays() {
         for (int[] end : ENDS) {
-            int[] outer = Acts.join(Acts.store(0, 1), Acts.store(0, 0), Acts.row(Acts.PUSH, 100, Acts.PUSH, 0, Acts.PUSH, 0, Acts.PUSH, 2, Acts.CALL));
+            int[] outer = Acts.join(Acts.store(0, 1), Acts.store(0, 0),
+                    Acts.row(Acts.PUSH, 100, Acts.PUSH, 0, Acts.PUSH, 0, Acts.PUSH, 2, Acts.CALL));
             Bench b = new Bench(outer, end).run(0, 0, 900);
             int inner = end == REVERTS ? 1 : 100;
             b.due("of the outer one", 0, 1, 25 + 84 + 34 + inner - 15, 0);
@@ -172,7 +174,8 @@ public final class UndoneTest {
     private static void onlyTheCallIsUndone() {
         for (int[] end : ENDS) {
             int[] inner = Acts.join(Acts.store(0, 8), Acts.store(1, 9), end);
-            int[] outer = Acts.join(Acts.store(0, 5), Acts.row(Acts.PUSH, 100, Acts.PUSH, 1, Acts.PUSH, 0, Acts.SELF, Acts.CALL), Acts.store(2, 6), Acts.row(Acts.STOP));
+            int[] outer = Acts.join(Acts.store(0, 5), Acts.row(Acts.PUSH, 100, Acts.PUSH, 1, Acts.PUSH, 0, Acts.SELF,
+                    Acts.CALL), Acts.store(2, 6), Acts.row(Acts.STOP));
             Bench b = new Bench(Acts.branch(Acts.row(Acts.ARGUMENT), inner, outer)).run(0, 0, 9000);
             Check.same("how it ends", b.ending(0), 1);
             Check.same("CELL 0", b.cell(1, 0), 5);

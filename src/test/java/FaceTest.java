@@ -35,6 +35,7 @@ public final class FaceTest {
         Check.same("its parameters", constructors[0].getParameterCount(), 0);
         methods(face);
         fields(face);
+        Check.same("the value of NONE", LedgerMachine.NONE, -1);
         for (Class<?> inside : face.getDeclaredClasses()) {
             int modifiers = inside.getModifiers();
             boolean isHidden = !Modifier.isPublic(modifiers) && !Modifier.isProtected(modifiers);
